@@ -229,6 +229,9 @@ public final class GrantMathPromises {
         due("6: sealed, one lost", x.restrict(4, 2, 127), false);
         dueGrant("6: sealed, one lost", x, 4, 10, 10, 1000, 127, 5, 0);
         due("6: sealed, without tag, none lost", x.restrict(5, 4, 127), false);
+        due("6: sealed over one that is not, one lost", x.restrict(10, 2, 254), false);
+        due("6: not sealed over one that is, one lost", x.restrict(4, 0, 254), true);
+        dueGrant("6: not sealed over one that is, one lost", x, 4, 10, 10, 1000, 254, 0, 1);
         x.seal(6, 3, 1);
         due("6: sealed, mask less than all but none lost", x.restrict(6, 6, 4), true);
         dueGrant("6: sealed, mask less than all but none lost", x, 6, 10, 10, 1000, 4, 5, 1);
