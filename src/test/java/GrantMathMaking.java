@@ -249,10 +249,15 @@ public final class GrantMathMaking extends Sentences {
         }
     }
 
+    /** A grant r that is sealed where s is open, and open where it is sealed: it is s that counts. */
+    private static void makeUnlike(GrantMath x, int r, int[] s) {
+        make(x, r, 52, 51, 53, 255, s[TYPE] == 0 ? 55 : 0, 1);
+    }
+
     private static void dueNarrow(String what, int[] s, int n, int top, boolean tag) {
         int[] want = {s[ADDRESS], s[ADDRESS], top, s[PERMISSIONS], s[TYPE], tag ? 1 : 0};
         GrantMath x = with(0, s);
-        make(x, 1, 52, 51, 53, 54, 55, 1);
+        makeUnlike(x, 1, s);
         due("narrow " + what, x.narrow(1, 0, n), tag);
         dueGrant("r of narrow " + what, x, 1, want);
         dueGrant("s of narrow " + what, x, 0, s);
@@ -332,8 +337,7 @@ public final class GrantMathMaking extends Sentences {
     private static void dueRestrict(String what, int[] s, int mask, int permissions, boolean tag) {
         int[] want = {s[ADDRESS], s[BASE], s[TOP], permissions, s[TYPE], tag ? 1 : 0};
         GrantMath x = with(0, s);
-        // A grant r that is sealed where s is open, and open where it is sealed: it is s that counts.
-        make(x, 1, 52, 51, 53, 255, s[TYPE] == 0 ? 55 : 0, 1);
+        makeUnlike(x, 1, s);
         due("restrict " + what, x.restrict(1, 0, mask), tag);
         dueGrant("r of restrict " + what, x, 1, want);
         dueGrant("s of restrict " + what, x, 0, s);
