@@ -78,7 +78,7 @@ public final class GrantMath {
     public boolean narrow(int r, int s, int n) throws IndexOutOfBoundsException {
         requireGrant(r);
         requireGrant(s);
-        // A top beyond 32 bits is above every top, so the sum alone tells both.
+        // The sum from an address above top, or beyond 32 bits, is above top too, so it tells all three.
         boolean keepsTag = !isSealed(s) && isInBounds(s, addresses[s], unsigned(n));
         copy(r, s);
         bases[r] = addresses[r];

@@ -12,7 +12,8 @@ import java.util.TreeSet;
  */
 public final class GrantMathModel {
     private static final int RUNS = 2000;
-    private static final int CALLS = 400;
+    // With the look at all 96 parts after them, they are the 512 calls that the document promises.
+    private static final int CALLS = 416;
     private static final int PART = 9;
     private static final int COUNT = 10;
     // Every answer, cause and exception of every call but part and count.
@@ -323,8 +324,9 @@ public final class GrantMathModel {
                 return false;
             }
         }
-        if (!whole(x).equals(model.whole())) {
-            System.out.println("run " + run + " ends with " + whole(x) + ", due is " + model.whole());
+        String end = whole(x);
+        if (!end.equals(model.whole())) {
+            System.out.println("run " + run + " ends with " + end + ", due is " + model.whole());
             return false;
         }
         return true;

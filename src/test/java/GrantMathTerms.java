@@ -13,6 +13,35 @@ public final class GrantMathTerms extends Sentences {
         due("part(0, 0) as the 512th call", x.part(0, ADDRESS), 511);
     }
 
+    private interface Call {
+        Object on(GrantMath x);
+    }
+
+    /** One call again and again, with the same answer each time, until the object has had its 512 calls. */
+    private static void due512Times(String what, Object want, Call call) {
+        GrantMath x = new GrantMath();
+        x.root(0, 1, 2, SEAL | UNSEAL);
+        x.seal(1, 0, 0);
+        int right = 0;
+        for (int used = 2; used < 512; used++) {
+            if (call.on(x).equals(want)) {
+                right++;
+            }
+        }
+        due("how often " + what + " answered " + want, right, 510);
+    }
+
+    private static void allCallsToThe512th() {
+        due512Times("narrow", true, x -> x.narrow(2, 0, 1));
+        due512Times("restrict", true, x -> x.restrict(2, 0, SEAL));
+        due512Times("seal", 0, x -> x.seal(2, 0, 0));
+        due512Times("unseal", 0, x -> x.unseal(2, 1, 0));
+        due512Times("allows", 0, x -> x.allows(0, 0, 1, SEAL));
+        due512Times("within", true, x -> x.within(1, 0));
+        due512Times("part", 1, x -> x.part(0, BASE));
+        due512Times("count", 1, x -> x.count(1, SEAL));
+    }
+
     private static void sixteenGrants() {
         GrantMath x = new GrantMath();
         for (int r = 0; r < 16; r++) {
@@ -328,6 +357,7 @@ public final class GrantMathTerms extends Sentences {
     private static void parts() {
         String terms = "Terms";
         sentence("What it is", "at most 512 calls", GrantMathTerms::the512thCall);
+        sentence("What it is", "at most 512 calls (of each kind that answers)", GrantMathTerms::allCallsToThe512th);
         sentence(terms, "GRANTS 0..15", GrantMathTerms::sixteenGrants);
         sentence(terms, "ADDRESS (32 bits without sign)", GrantMathTerms::addressWithoutSign);
         sentence(terms, "BASE (32 bits without sign)", GrantMathTerms::baseWithoutSign);
